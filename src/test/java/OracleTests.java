@@ -217,8 +217,11 @@ public final class OracleTests {
         }
     }
 
-    /** A number that is now and then one too small or too great. */
+    /** A number that is now and then one too small or too great, or far off. */
     private int about(int least, int most) {
+        if (upTo(80) == 0) {
+            return new int[] {Integer.MIN_VALUE, Integer.MAX_VALUE, 64, -64, 32, 1 << 16}[upTo(5)];
+        }
         return upTo(25) == 0 ? least - 1 - upTo(1) : upTo(25) == 0 ? most + 1 + upTo(1) : least + upTo(most - least);
     }
 

@@ -55,6 +55,10 @@ public final class PromiseTests {
         count();
         images();
         withoutFord();
+        edges();
+        dayByDay();
+        sixPeople();
+        sixRules();
         t.finish("PromiseTests");
     }
 
@@ -1017,5 +1021,93 @@ public final class PromiseTests {
         t.due(28, "note", f.note(0, 0, 0), -2);
         t.due(28, "note of none", f.note(NONE, 0, 0), 0);
         t.due(35, "back", f.back(0), NONE);
+    }
+
+    private static void edges() {
+        t.due(13, "1", Checks.made(THREE).pay(0, 1, 1), 8);
+        t.due(23, "1 or less", Checks.made("ford 2 0;person 0 0 0;person 0 0 0").fair(), 0);
+        t.due(23, "1 or less", Checks.made("ford 1 0;person 0 0 0;person 0 0 0").fair(), 3);
+        RankFord f = Checks.made("ford 10 0;person 0 0 0;person 60 0 0");
+        t.due(21, "both CAN", f.oneRemark(0), 2);
+        t.due(21, "who", f.oneRemark(1), 0);
+        t.due(21, "20", f.oneRemark(2), 20);
+        t.due(24, "20", f.self(0, 1), 20);
+        t.due(27, "9 at most", Checks.made("ford 10 0;person 5 99 0;person 20 0 0;thinks 0 0 20").price(1, 0), 9);
+        t.due(27, "0", Checks.made("ford 10 0;person 5 0 0;person 20 0 7;thinks 0 0 20").price(1, 0), 0);
+        // found by search, and so by the oracle: no two of FEES rests
+        f = Checks.made("ford 10 0;person 20 1 3;person 20 8 3;person 20 8 1;person 20 0 4;thinks 2 2 20");
+        Checks.rule(f, "go 9 - fee if alone = 0");
+        f.force(0);
+        t.due(26, "none", f.rests(3, 2, 1, 0), 0);
+        t.due(26, "none", f.rests(3, 2, 1, 1), -2);
+        t.due(26, "none", f.rests(3, 2, 1, 2), -2);
+    }
+
+    /** By this RULE the last one goes on the first DAY, and one more on each behind it. */
+    private static void dayByDay() {
+        RankFord f = Checks.made("ford 0 2;person 0 1 0;person 0 2 0;person 0 3 0");
+        Checks.rule(f, "go 1 if here - 1 = person and alone = 1");
+        f.force(0);
+        t.due(16, "2 DAYS", f.ahead(0, 2, 0), 0);
+        t.due(16, "3 DAYS", f.ahead(0, 3, 0), 1);
+        t.due(16, "3 DAYS", f.ahead(0, 3, 2), 12);
+        t.due(17, "over", f.over(), 3);
+        t.due(25, "2 DAYS", f.hired(2, 1), 2);
+        t.due(32, "2 DAYS, two times", f.fairs(2, 2, 0, 0), 4);
+        t.due(32, "COINS", f.fairs(2, 2, 0, 1), 10);
+        f.note(2, 0, 0);
+        f.note(3, 0, 1);
+        guessed(f, 1, 0, 0, 1);
+        t.due(10, "day", f.day(), 1);
+        t.due(10, "day", f.day(), 1);
+        t.due(10, "who is over", f.count(6), 6);
+        t.due(17, "over", f.over(), 3);
+    }
+
+    private static void sixPeople() {
+        StringBuilder text = new StringBuilder("ford 10 0");
+        for (int p = 0; p < 6; p++) {
+            text.append(";person 0 9 1");
+        }
+        for (int p = 0; p < 6; p++) {
+            text.append(";thinks ").append(p).append(" ").append(p).append(" 20");
+        }
+        mosts(text.toString(), 6, 3, 1, 0, 3, 2, 5, 4);
+        RankFord f = Checks.made(text.toString());
+        t.due(19, "three", f.fewest(0), 3);
+        t.due(19, "who", f.fewest(1), 0);
+        t.due(19, "with whom", f.fewest(2), 1);
+        f.cross(1, 0);
+        t.due(19, "who", f.fewest(1), 2);
+        t.due(19, "with whom", f.fewest(2), 3);
+        f.cross(2, 3);
+        f.remark(4, 4, 11);
+        t.due(19, "none by which 4 goes", f.fewest(0), -2);
+        t.due(21, "5 CAN no more either", f.oneRemark(0), 2);
+        t.due(21, "who", f.oneRemark(1), 4);
+        t.due(21, "number", f.oneRemark(2), 20);
+        f.undo();
+        t.due(20, "two", f.ring(0), 2);
+        t.due(20, "0 and 1", f.ring(1), 3);
+        t.due(10, "the last two", f.day(), 2);
+        t.due(33, "all are over", f.count(6), 63);
+        t.due(33, "COINS", f.count(7), 54);
+        t.due(16, "PURSE of 5", f.ahead(5, 60, 1), 10);
+    }
+
+    private static void sixRules() {
+        RankFord f = Checks.made(ONE);
+        String[] rules = {"go 1 if day = 10", "go 1 if day = 20", "go 1 if day = 30", "go 1 if day = 40", "go 0",
+            "go 1 if day = 59"};
+        for (String each : rules) {
+            Checks.rule(f, each);
+        }
+        guessed(f, 7, NONE, 21, 4);
+        f.note(40, 0, 0);
+        guessed(f, 3, 3, 41, 2);
+        f.note(59, 0, 0);
+        guessed(f, 2, 4, 60, 1);
+        f.note(60, 0, 1);
+        guessed(f, 1, 5, 0, 1);
     }
 }
