@@ -53,6 +53,7 @@ public final class RankFord {
 
     public int ford() {
         int fault = fordReader.read(tape);
+        tape.length = 0;
         if (fault != 0) {
             return -2 - fault;
         }
@@ -60,7 +61,6 @@ public final class RankFord {
         scene.now.copyFrom(fordReader.world);
         scene.noteCount = 0;
         history.forget();
-        tape.length = 0;
         return scene.now.people;
     }
 
@@ -69,12 +69,12 @@ public final class RankFord {
             return NONE;
         }
         int fault = ruleReader.read(tape);
+        tape.length = 0;
         if (fault != 0) {
             return -2 - fault;
         }
         rules[ruleCount] = ruleReader.made();
         ruleCount++;
-        tape.length = 0;
         return ruleCount - 1;
     }
 

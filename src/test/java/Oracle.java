@@ -520,14 +520,21 @@ final class Oracle {
         return n;
     }
 
+    /** The text that was told; with a FAULT, too, the TAPE is empty behind it. */
+    private String takenTape() {
+        String text = tape.toString();
+        tape.setLength(0);
+        return text;
+    }
+
     int ford() {
+        String text = takenTape();
         try {
-            Place place = new Reader(tape.toString()).ford();
+            Place place = new Reader(text).ford();
             all.begin = place.copy();
             all.now = place;
             all.notes.clear();
             acts.clear();
-            tape.setLength(0);
             return size();
         } catch (Fault fault) {
             return -2 - fault.number;
@@ -538,9 +545,9 @@ final class Oracle {
         if (rules.size() == 6) {
             return NONE;
         }
+        String text = takenTape();
         try {
-            rules.add(new Reader(tape.toString()).rule());
-            tape.setLength(0);
+            rules.add(new Reader(text).rule());
             return rules.size() - 1;
         } catch (Fault fault) {
             return -2 - fault.number;

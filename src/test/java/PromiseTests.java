@@ -116,7 +116,7 @@ public final class PromiseTests {
         f.note(1, 0, 1);
         f.flood(3);
         t.due(4, "wrong ford", Checks.ford(f, "ford 9 9"), Checks.fault(7, 1));
-        counts(4, f, 3, 1, 3, 1, 0, 1, f.count(6), 34, 1, 2, 77, 8);
+        counts(4, f, 3, 1, 3, 1, 0, 1, f.count(6), 34, 1, 2, 77, 0);
         t.due(4, "ford in place of it", Checks.ford(f, "  ford005 02  ;  person7 8 9  "), 1);
         counts(4, f, 5, 2, 1, 1, 0, 0, 0, 8, 0, 0, 77, 0);
         t.due(4, "undo behind it", f.undo(), NONE);
@@ -134,7 +134,8 @@ public final class PromiseTests {
         RankFord f = Checks.made(ONE);
         t.due(4, "ford of '" + text + "'", Checks.ford(f, text), Checks.fault(place, why));
         t.due(4, "PEOPLE behind it", f.count(2), 1);
-        t.due(4, "TAPE behind it", f.count(11), text.length());
+        t.due(4, "TAPE behind it", f.count(11), 0);
+        t.due(4, "feed behind it", f.feed(0, 0, 0, 0, 0), 20);
     }
 
     private static void fordFaults() {
@@ -182,13 +183,17 @@ public final class PromiseTests {
         t.due(5, "seventh", Checks.rule(f, "go 1"), NONE);
         t.due(5, "TAPE behind it", f.count(11), 4);
         t.due(5, "RULES", f.count(3), 6);
+        t.due(5, "seventh, wrong", Checks.rule(f, "go go"), NONE);
+        t.due(5, "TAPE behind it", f.count(11), 5);
+        t.due(5, "seventh, empty", Checks.rule(f, ""), NONE);
     }
 
     private static void ruleText(String text, int want) {
         RankFord f = new RankFord();
         t.due(5, "rule of '" + text + "'", Checks.rule(f, text), want);
         t.due(5, "RULES behind it", f.count(3), want == 0 ? 1 : 0);
-        t.due(5, "TAPE behind it", f.count(11), want == 0 ? 0 : text.length());
+        t.due(5, "TAPE behind it", f.count(11), 0);
+        t.due(5, "feed behind it", f.feed(0, 0, 0, 0, 0), 20);
     }
 
     private static void ruleFault(String text, int place, int why) {
