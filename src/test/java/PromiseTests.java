@@ -59,6 +59,10 @@ public final class PromiseTests {
         dayByDay();
         sixPeople();
         sixRules();
+        sixUnlike();
+        nothingLeftOfFaults();
+        nothingLeftOfAsking();
+        lastDay();
         t.finish("PromiseTests");
     }
 
@@ -460,6 +464,9 @@ public final class PromiseTests {
         test("not [1 = 1 or 1 = 1]", false);
         test("1 + 1 = 2 * 1", true);
         test("[[1 = 1]]", true);
+        test("5 < 1 + 1", false);
+        test("1 + 1 > 5 - 4", true);
+        test("[1 = 1]" + " and [1 = 1]".repeat(10), true);
     }
 
     private static void cross() {
@@ -1114,5 +1121,76 @@ public final class PromiseTests {
         guessed(f, 2, 4, 60, 1);
         f.note(60, 0, 1);
         guessed(f, 1, 5, 0, 1);
+    }
+
+    private static void sixUnlike() {
+        StringBuilder text = new StringBuilder("ford 0 0");
+        for (int p = 0; p < 6; p++) {
+            text.append(";person ").append(10 + p).append(" ").append(30 + p).append(" ").append(p + 1);
+        }
+        RankFord f = Checks.made(text.toString());
+        for (int p = 0; p < 6; p++) {
+            t.due(7, "HEIGHT of " + p, f.person(p, 0), 10 + p);
+            t.due(7, "PURSE of " + p, f.person(p, 1), 30 + p);
+            t.due(7, "FEE of " + p, f.person(p, 2), p + 1);
+        }
+    }
+
+    /** A text with a FAULT, which has used up a limit, takes nothing from the next one. */
+    private static void nothingLeftOfFaults() {
+        String brackets = "[".repeat(10) + "1 = 1" + "]".repeat(10);
+        String values = "1" + "+1".repeat(59);
+        String clauses = "go 1" + ";go 1".repeat(11);
+        RankFord f = Checks.made(ONE);
+        t.due(5, "too deep", Checks.rule(f, "go 1 if " + "[".repeat(11)), Checks.fault(18, 2));
+        t.due(5, "10 deep", Checks.rule(f, "go 1 if " + brackets), 0);
+        t.due(5, "too many VALUES", Checks.rule(f, "go " + values + "+1"), Checks.fault(123, 3));
+        t.due(5, "60 VALUES", Checks.rule(f, "go " + values), 1);
+        t.due(5, "too many CLAUSES", Checks.rule(f, clauses + ";go 1"), Checks.fault(60, 4));
+        t.due(5, "12 CLAUSES", Checks.rule(f, clauses), 2);
+        t.due(4, "too many PEOPLE", Checks.ford(f, "ford 5 0" + ";person 1 1 1".repeat(7)), Checks.fault(87, 4));
+        t.due(4, "nobody is told yet", Checks.ford(f, "ford 6 0;thinks 0 0 0"), Checks.fault(16, 1));
+        t.due(33, "DEEP", f.count(0), 0);
+        t.due(4, "one", Checks.ford(f, "ford 6 0;person 1 1 1"), 1);
+    }
+
+    private static void nothingLeftOfAsking() {
+        RankFord f = Checks.made("ford 10 0;person 20 9 0;person 5 9 0;person 20 0 0;thinks 1 1 20");
+        t.due(27, "1 hires 2", f.price(2, 1), 9);
+        Checks.rule(f, "go 1 if person = 0 and with = 1;go 1 if person = 1");
+        f.force(0);
+        t.due(27, "0 has hired 1", f.price(2, 1), -2);
+        f = Checks.made("ford 0 2;person 0 1 0;person 0 2 0;person 0 3 0");
+        Checks.rule(f, "go 1 if here - 1 = person and alone = 1");
+        t.due(30, "look ahead of ruled", f.look(0), 1);
+        t.due(30, "how many", f.look(1), 1);
+        f = Checks.made(ONE);
+        Checks.rule(f, "go day");
+        f.force(0);
+        t.due(16, "not on DAY 0", f.ahead(0, 1, 0), 0);
+        t.due(16, "on DAY 1", f.ahead(0, 2, 0), 1);
+        f = Checks.made("ford 5 0;person 5 0 0;person 0 0 0");
+        f.note(1, 0, 1);
+        f.image(0);
+        f.note(NONE, 0, 0);
+        f.note(0, 1, 0);
+        f.image(1);
+        f.back(0);
+        t.due(35, "the NOTE of IMAGE 0", f.ruled(0), 1);
+        f.back(1);
+        t.due(35, "the NOTE of IMAGE 1", f.ruled(0), 1);
+    }
+
+    /** Behind 512 calls nothing is promised, but the bound that promise 10 names is kept there, too. */
+    private static void lastDay() {
+        RankFord f = Checks.made("ford 1 0;person 0 0 0");
+        for (int i = 0; i < 999; i++) {
+            f.day();
+        }
+        t.due(10, "DAY 999", f.count(5), 999);
+        t.due(10, "day() on DAY 999", f.day(), NONE);
+        t.due(10, "DAY 999", f.count(5), 999);
+        f.flood(0);
+        t.due(17, "DAYS that are asked go on", f.over(), 1000);
     }
 }
