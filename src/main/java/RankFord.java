@@ -1672,10 +1672,11 @@ public final class RankFord {
         private void goOn(Rule rule, int[] row) {
             boolean still = false;
             for (int n = 0; n <= FARTHEST; n++) {
-                row[n] = world.across;
                 if (!still) {
                     still = days.isStill(days.pass(world, rule), rule);
                 }
+                // Behind DAY n, which has gone by then: DAY 0 is the first.
+                row[n] = world.across;
             }
         }
 

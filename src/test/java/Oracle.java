@@ -959,7 +959,7 @@ final class Oracle {
         for (int r = -1; r < rules.size(); r++) {
             boolean fits = true;
             for (int[] note : all.notes) {
-                Place then = all.begin.copy().days(r < 0 ? null : rules.get(r), note[0]);
+                Place then = all.begin.copy().days(r < 0 ? null : rules.get(r), note[0] + 1);
                 fits &= then.people.get(note[1]).side == note[2];
             }
             if (fits) {
@@ -990,7 +990,7 @@ final class Oracle {
         for (int d = 0; d <= 60; d++) {
             Map<Integer, Integer> groups = new HashMap<>();
             for (int r : fit) {
-                groups.merge(all.begin.copy().days(r < 0 ? null : rules.get(r), d).bits(), 1, Integer::sum);
+                groups.merge(all.begin.copy().days(r < 0 ? null : rules.get(r), d + 1).bits(), 1, Integer::sum);
             }
             int most = groups.values().stream().max(Integer::compare).get();
             if (most < fewest) {

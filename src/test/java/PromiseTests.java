@@ -50,6 +50,7 @@ public final class PromiseTests {
         price();
         note();
         ruledAndLook();
+        behindTheFirstAndTheLastDay();
         seed();
         fairs();
         count();
@@ -875,31 +876,33 @@ public final class PromiseTests {
         guessed(f, 1, NONE, 0, 1);
         Checks.rule(f, "go 5 if alone = 1");
         Checks.rule(f, "go 1 if day = 2 and alone = 1");
-        guessed(f, 3, NONE, 1, 1);
+        guessed(f, 3, NONE, 0, 1);
         f.flood(60);
         f.force(0);
         f.pay(1, 0, 5);
-        guessed(f, 3, NONE, 1, 1);
-        f.note(1, 0, 1);
-        guessed(f, 2, NONE, 1, 1);
-        f.note(1, 1, 0);
+        guessed(f, 3, NONE, 0, 1);
+        f.note(0, 0, 1);
+        guessed(f, 2, NONE, 0, 1);
+        f.note(0, 1, 0);
         guessed(f, 1, 0, 0, 1);
         f.note(60, 0, 0);
         guessed(f, 0, -2, -2, -2);
         f.note(NONE, 0, 0);
-        f.note(0, 0, 1);
+        f.note(0, 1, 1);
+        guessed(f, 1, NONE, 0, 1);
+        f.note(1, 1, 0);
         guessed(f, 0, -2, -2, -2);
         f.note(NONE, 0, 0);
-        f.note(2, 0, 0);
-        f.note(3, 0, 1);
+        f.note(1, 0, 0);
+        f.note(2, 0, 1);
         guessed(f, 1, 1, 0, 1);
         f.note(NONE, 0, 0);
         Checks.rule(f, "go 1 if alone = 1");
-        Checks.rule(f, "go 1 if day = 59 and alone = 1");
-        guessed(f, 5, NONE, 1, 2);
-        f.note(1, 0, 0);
-        guessed(f, 2, 1, 3, 1);
-        f.note(3, 0, 0);
+        Checks.rule(f, "go 1 if day = 60 and alone = 1");
+        guessed(f, 5, NONE, 0, 2);
+        f.note(0, 0, 0);
+        guessed(f, 2, 1, 2, 1);
+        f.note(2, 0, 0);
         guessed(f, 1, 3, 0, 1);
         f.note(59, 0, 0);
         f.note(60, 0, 1);
@@ -910,6 +913,30 @@ public final class PromiseTests {
         t.due(30, "2", f.look(2), NONE);
         t.due(30, "-1", f.look(-1), NONE);
         t.due(30, "without a FORD", new RankFord().look(0), NONE);
+    }
+
+    /** DAY 0 is the first, so behind it one DAY has gone by; behind DAY 60 there are 61. */
+    private static void behindTheFirstAndTheLastDay() {
+        RankFord f = Checks.made(ONE);
+        f.note(0, 0, 0);
+        guessed(f, 0, -2, -2, -2);
+        f.note(NONE, 0, 0);
+        f.note(0, 0, 1);
+        guessed(f, 1, NONE, 0, 1);
+        f.note(NONE, 0, 0);
+        Checks.rule(f, "go 0");
+        guessed(f, 2, NONE, 0, 1);
+        f.note(0, 0, 0);
+        guessed(f, 1, 0, 0, 1);
+        Checks.rule(f, "go 1 if day = 60");
+        Checks.rule(f, "go 1 if day = 61");
+        guessed(f, 3, 0, 60, 2);
+        f.note(60, 0, 0);
+        guessed(f, 2, 0, 0, 2);
+        f.note(NONE, 0, 0);
+        f.day();
+        f.note(0, 0, 1);
+        guessed(f, 1, NONE, 0, 1);
     }
 
     private static void seed() {
@@ -1067,8 +1094,8 @@ public final class PromiseTests {
         t.due(25, "2 DAYS", f.hired(2, 1), 2);
         t.due(32, "2 DAYS, two times", f.fairs(2, 2, 0, 0), 4);
         t.due(32, "COINS", f.fairs(2, 2, 0, 1), 10);
-        f.note(2, 0, 0);
-        f.note(3, 0, 1);
+        f.note(1, 0, 0);
+        f.note(2, 0, 1);
         guessed(f, 1, 0, 0, 1);
         t.due(10, "day", f.day(), 1);
         t.due(10, "day", f.day(), 1);
@@ -1110,13 +1137,13 @@ public final class PromiseTests {
     private static void sixRules() {
         RankFord f = Checks.made(ONE);
         String[] rules = {"go 1 if day = 10", "go 1 if day = 20", "go 1 if day = 30", "go 1 if day = 40", "go 0",
-            "go 1 if day = 59"};
+            "go 1 if day = 60"};
         for (String each : rules) {
             Checks.rule(f, each);
         }
-        guessed(f, 7, NONE, 21, 4);
-        f.note(40, 0, 0);
-        guessed(f, 3, 3, 41, 2);
+        guessed(f, 7, NONE, 20, 4);
+        f.note(39, 0, 0);
+        guessed(f, 3, 3, 40, 2);
         f.note(59, 0, 0);
         guessed(f, 2, 4, 60, 1);
         f.note(60, 0, 1);
@@ -1162,7 +1189,9 @@ public final class PromiseTests {
         t.due(27, "0 has hired 1", f.price(2, 1), -2);
         f = Checks.made("ford 0 2;person 0 1 0;person 0 2 0;person 0 3 0");
         Checks.rule(f, "go 1 if here - 1 = person and alone = 1");
-        t.due(30, "look ahead of ruled", f.look(0), 1);
+        Checks.rule(f, "go 1 if here - 1 = person and alone = 1 and day < 2");
+        f.note(0, 0, 0);
+        t.due(30, "look ahead of ruled", f.look(0), 2);
         t.due(30, "how many", f.look(1), 1);
         f = Checks.made(ONE);
         Checks.rule(f, "go day");
