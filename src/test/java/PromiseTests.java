@@ -937,6 +937,12 @@ public final class PromiseTests {
         f.day();
         f.note(0, 0, 1);
         guessed(f, 1, NONE, 0, 1);
+        Checks.rule(f, "go 1 if day = 1");
+        f.note(NONE, 0, 0);
+        f.note(0, 0, 0);
+        guessed(f, 4, 0, 60, 2);
+        f.note(60, 0, 1);
+        guessed(f, 2, 1, 1, 1);
     }
 
     private static void seed() {
