@@ -250,7 +250,13 @@ public final class ActEdgeTests {
             f.day();
             t.due(c[0] + " and " + c[1], f.thinks(0, 0), c[2]);
         }
-        RankFord f = Checks.made("ford 10 5;person 0 0 0;person 0 0 0;thinks 0 0 20;thinks 1 1 20;thinks 0 1 10");
+        RankFord f = Checks.made("ford 0 3" + ";person 0 0 0".repeat(6) + ";thinks 5 5 17;thinks 4 4 18");
+        f.day();
+        int[] six = {13, 13, 13, 13, 20, 20};
+        for (int p = 0; p < 6; p++) {
+            t.due("THINKS " + p + " of themselves", f.thinks(p, p), six[p]);
+        }
+        f = Checks.made("ford 10 5;person 0 0 0;person 0 0 0;thinks 0 0 20;thinks 1 1 20;thinks 0 1 10");
         f.remark(1, 1, 20);
         f.cross(0, 1);
         t.due("of a two", f.thinks(0, 0), 20);
@@ -258,7 +264,7 @@ public final class ActEdgeTests {
         t.due("of others no more", f.thinks(0, 1), 10);
     }
 
-    /** All the COINS there can be, 594, are far from 9999. */
+    /** All the COINS there can be, 594, are far from 9999, which is looked at within the class. */
     private static void purses() {
         t.says(10, "who has the FEE out of the PURSE (9999 at most in a PURSE)");
         RankFord f = Checks.made("ford 0 0" + ";person 0 99 9".repeat(6));
@@ -271,6 +277,15 @@ public final class ActEdgeTests {
         t.due("PURSE of 0", f.person(0, 1), 594);
         t.due("PURSE of 5", f.person(5, 1), 0);
         t.due("nothing left for a FEE", f.cross(5, 0), NONE);
+        RankFord.World world = new RankFord.World();
+        world.begin(0, 0);
+        world.add(0, 9990, 9);
+        world.add(0, 20, 0);
+        world.go(1, 0);
+        t.due("9990 and 9", world.purse(0), 9999);
+        world.go(1, 0);
+        t.due("9999 and 9", world.purse(0), 9999);
+        t.due("20 less 9 less 9", world.purse(1), 2);
     }
 
     /** DAY 999 lies behind 512 calls, where nothing is promised; the bound is kept there, too. */

@@ -10,6 +10,9 @@ public final class AskEdgeTests {
     private static final String ONE = "ford 0 1;person 0 7 0";
     private static final String SIX = "ford 0 0" + ";person 0 0 0".repeat(6);
 
+    /** The last who is here goes. */
+    private static final String ONE_A_DAY = "go 1 if here - 1 = person and alone = 1";
+
     private static Edges t;
 
     public static void main(String[] args) {
@@ -103,6 +106,13 @@ public final class AskEdgeTests {
         t.due("1 DAY", Checks.made(ONE).ahead(0, 1, 0), 1);
         t.due("6 PEOPLE", Checks.made(SIX).ahead(5, 1, 0), 1);
         t.due("20 at most", Checks.made("ford 0 5;person 0 0 0;thinks 0 0 18").ahead(0, 1, 2), 20);
+        f = forced(SIX, ONE_A_DAY);
+        t.due("5 DAYS, one on each", f.ahead(0, 5, 0), 0);
+        t.due("6 DAYS, one on each", f.ahead(0, 6, 0), 1);
+        t.due("over behind 6", f.over(), 6);
+        f = forced(ONE, "go day");
+        t.due("1 DAY, DAY 0", f.ahead(0, 1, 0), 0);
+        t.due("2 DAYS, 0 and 1", f.ahead(0, 2, 0), 1);
         t.says(16, "NONE without these.");
         for (int n : new int[] {-1, 61, LEAST, GREATEST}) {
             refusedEach("ahead(0, " + n + ", 0)", x -> x.ahead(0, n, 0), NONE);
@@ -208,6 +218,13 @@ public final class AskEdgeTests {
         f.cross(0, 0);
         f.cross(1, 1);
         fewests("the last one", f, 1, 2, 2);
+        f = Checks.made(SIX);
+        for (int p = 0; p < 4; p++) {
+            f.cross(p, p);
+        }
+        fewests("the last two of six", f, 1, 4, 5);
+        f.flood(1);
+        fewests("the same, too deep", f, -2, -2, -2);
         t.says(19, "-3 for others, or without a FORD.");
         whats("fewest", RankFord::fewest, 2, -3);
         changesNothing("fewest", x -> x.fewest(0) + x.fewest(2));
@@ -224,7 +241,8 @@ public final class AskEdgeTests {
         fewests("two", Checks.made("ford 0 0" + ";person 0 0 0".repeat(2)), 1, 0, 1);
         fewests("three, 0 not alone", Checks.made("ford 10 0;person 0 0 0;person 60 0 0;person 60 0 0;thinks 0 0 20"), 2, 1, 1);
         fewests("four", Checks.made("ford 0 0" + ";person 0 0 0".repeat(4)), 2, 0, 1);
-        fewests("four who CAN not alone, 0 with 2 and 3", Checks.made("ford 10 0" + ";person 0 0 0".repeat(4) + proud(4) + ";thinks 0 1 11"), 2, 0, 2);
+        fewests("four who CAN not alone, 0 with 2 and 3",
+                Checks.made("ford 10 0" + ";person 0 0 0".repeat(4) + proud(4) + ";thinks 0 1 11"), 2, 0, 2);
         RankFord f = Checks.made("ford 10 0;person 60 0 0;person 0 0 0;person 60 0 0;thinks 1 0 20;thinks 1 2 0");
         f.cross(2, 2);
         fewests("2 must come back for 1; 0 goes first", f, 3, 0, 0);
@@ -246,6 +264,7 @@ public final class AskEdgeTests {
         t.says(20, "the shortest ring of PEOPLE, each of whom LOOKS DOWN on the next, the last on the first, two at least");
         rings(";thinks0 1 9;thinks1 2 9;thinks2 3 9;thinks3 4 9;thinks4 5 9;thinks5 0 9", 6, 63);
         rings(";thinks0 1 9;thinks1 2 9;thinks2 3 9;thinks3 4 9;thinks4 5 9", -2, -2);
+        rings(";thinks0 2 9;thinks2 1 9;thinks1 0 9", 3, 7);
         rings(";thinks0 1 9;thinks1 2 9;thinks2 3 9;thinks3 4 9;thinks4 5 9;thinks5 0 9;thinks5 4 9", 2, 48);
         RankFord f = Checks.made("ford 0 0;person 0 0 0;thinks 0 0 20");
         t.due("one alone", f.ring(0), -2);
@@ -262,6 +281,8 @@ public final class AskEdgeTests {
     private static void ringRows() {
         t.says(20, "the set of the first of these (as rows that begin with their least PERSON, least numbers first)");
         rings(";thinks4 5 9;thinks5 4 9;thinks0 3 9;thinks3 0 9", 2, 9);
+        rings(";thinks0 1 9;thinks0 2 9;thinks2 0 9", 2, 5);
+        rings(";thinks0 1 9;thinks1 2 9;thinks0 3 9;thinks3 4 9;thinks4 0 9", 3, 25);
         rings(";thinks0 2 9;thinks2 0 9;thinks0 1 9;thinks1 0 9", 2, 3);
         rings(";thinks0 2 9;thinks2 1 9;thinks1 0 9;thinks0 1 9;thinks1 3 9;thinks3 0 9;thinks1 0 10", 3, 11);
         // 0, 1, 4 is ahead of 0, 2, 3, and 0, 2, 4 ahead of 0, 3, 1, though their bits are more
@@ -288,7 +309,8 @@ public final class AskEdgeTests {
     }
 
     private static void oneRemarkNumbers() {
-        t.says(21, "one PERSON THINKING another number of themselves, or nothing, so that most of those on SIDE 0 CAN go alone, or with somebody there");
+        t.says(21, "one PERSON THINKING another number of themselves, or nothing, so that most of those on SIDE "
+                + "0 CAN go alone, or with somebody there");
         remarks("20 is enough", Checks.made("ford 10 0;person 0 0 0;person 60 0 0"), 2, 0, 20);
         remarks("20 is not enough", Checks.made("ford 11 0;person 0 0 0;person 60 0 0"), 1, NONE, NONE);
         remarks("1 is enough", Checks.made("ford 10 0;person 9 0 0;person 60 0 0;thinks 0 0 0;thinks 0 1 0"), 2, 0, 1);
@@ -307,7 +329,8 @@ public final class AskEdgeTests {
     }
 
     private static void rise() {
-        t.says(22, "RISE: the least DEEP, 0 to 60, in place of what it is, at which a PERSON CAN no more go alone, nor with anybody on their SIDE.");
+        t.says(22, "RISE: the least DEEP, 0 to 60, in place of what it is, at which a PERSON CAN no more go "
+                + "alone, nor with anybody on their SIDE.");
         t.due("HEIGHT 0", Checks.made("ford 60 0;person 0 0 0").rise(0), 1);
         t.due("HEIGHT 59", Checks.made("ford 0 0;person 59 0 0").rise(0), 60);
         String two = "ford 33 0;person 0 3 0;person 60 0 3;thinks 0 0 20";
@@ -366,6 +389,7 @@ public final class AskEdgeTests {
         t.says(24, "the least number they must THINK of themselves, in place of what they do, so that they CAN go with that one.");
         t.due("0 + 10 - 0 by 10", selfOf(0, 10, 0, 60, 0), 0);
         t.due("0 + 10 - 0 by 9", selfOf(0, 9, 0, 60, 0), 1);
+        t.due("0 + 10 - 0 by 60", selfOf(0, 60, 0, 60, 0), 0);
         t.due("10 + 10 - 20 by 0", selfOf(10, 0, 0, 60, 0), 20);
         t.due("3 for 3", selfOf(10, 0, 3, 60, 3), 20);
         t.due("10 for 1 by 10", selfOf(10, 0, 0, 10, 0), 20);
@@ -400,6 +424,10 @@ public final class AskEdgeTests {
         t.due("30 DAYS", f.hired(30, 1), 1);
         t.due("DAY 30 is not among 30", forced(ONE, "go 1 if day = 30").hired(30, 1), 0);
         t.due("1 DAY", Checks.made(ONE).hired(1, 1), 1);
+        f = forced(SIX, ONE_A_DAY);
+        t.due("5 DAYS, one on each", f.hired(5, 1), 5);
+        t.due("all CAN go, asked ahead of it", f.oneRemark(0), 6);
+        t.due("1 DAY behind that", f.hired(1, 1), 1);
         t.says(25, "-2 without these, or a FORD.");
         for (int n : new int[] {0, 31, -1, LEAST, GREATEST}) {
             refusedEach("hired(" + n + ", 0)", x -> x.hired(n, 0), -2);
@@ -418,7 +446,8 @@ public final class AskEdgeTests {
         t.due("who, of six who are over", allOver().hired(30, 0), NONE);
         t.due("how many, of six who are over", allOver().hired(30, 1), 6);
         t.due("how many, of six", Checks.made(SIX).hired(1, 1), 6);
-        t.says(25, "the PERSON whose FEE were best 0 from now on, or nobody's, so that most are on SIDE 1 then; of several nobody's, then the least");
+        t.says(25, "the PERSON whose FEE were best 0 from now on, or nobody's, so that most are on SIDE 1 then; "
+                + "of several nobody's, then the least");
         String poor = "ford 10 0;person 5 0 1;person 5 0 1;person 5 0 1;thinks 1 1 20;thinks 2 2 20;thinks 0 0 ";
         f = Checks.made(poor + "20");
         t.due("0, 1 or 2", f.hired(1, 0), 0);
@@ -432,6 +461,13 @@ public final class AskEdgeTests {
         f = Checks.made("ford 10 0;person 5 0 1;person 5 0 1;person 60 0 1;thinks 0 0 20");
         t.due("2 alone, whom 0 hires then", f.hired(1, 0), 2);
         t.due("two of three", f.hired(1, 1), 2);
+        f = Checks.made("ford 10 0" + ";person 5 0 1".repeat(5) + ";person 5 1 1;thinks 4 4 20;thinks 5 5 20");
+        t.due("nobody's, as 5 has the FEE of 4", f.hired(1, 0), NONE);
+        t.due("two of six", f.hired(1, 1), 2);
+        f = forced(poor + "0", "go 1 if alone = 0 and fee = 0");
+        t.due("a FEE of 0, as the RULE sees it", f.hired(1, 1), 2);
+        f = forced(poor.replace(" 1;", " 2;") + "0", "go 1 if alone = 0 and fee = 1");
+        t.due("and of nothing else", f.hired(1, 1), 0);
     }
 
     private static void rests() {
@@ -473,7 +509,11 @@ public final class AskEdgeTests {
         restsAre("who has 4 to give", forced(porters.replace("5 9 0", "5 4 0"), "go fee + 1 if person = 0"), 5, 4, 0);
         // 1 asks 3, as 0 has no more; 2 is hired for nothing else than 4, which 0 has not
         restsAre("who has 3 to give", forced(porters.replace("5 9 0", "5 3 0"), "go fee + 1 if person = 0"), 5, 3, 0);
+        restsAre("who is never hired, and has some", forced(porters.replace("20 0", "20 5"), "go 1 if alone = 1"), 25, 0, 0);
         t.says(26, "twos of which neither would have more by another one");
+        // who asks 0 is hired by 0, who has nothing; else 1 hires 0 for 3, or 2 for less
+        restsAre("whom 0 is best to be", Checks.made("ford 10 0;person 0 0 3;person 0 9 2;person 60 0 2;thinks 0 0 20;thinks 1 1 20"),
+                5, 0, 0);
         restsAre("who is hired if they ask least", Checks.made(porters), 3, 0, 0);
         restsAre("2 alone is hired, for 4", forced(porters, "go 1 if person = 0 and with = 2"), 5, 0, 4);
         t.says(26, "FEES of the first (-2: there is none)");
@@ -526,6 +566,7 @@ public final class AskEdgeTests {
     private static void priceFees() {
         t.says(27, "the greatest FEE, 0 to 9, of the first one, in place of theirs");
         t.due("9 of 99", priceOf(5, 99, 9), 9);
+        t.due("9 of 99, and nobody else", Checks.made("ford 10 0;person 5 99 0;person 20 0 5;thinks 0 0 20").price(1, 0), 9);
         t.due("9 of 9", priceOf(5, 9, 9), 9);
         t.due("8 of 8", priceOf(5, 8, 9), 8);
         t.due("0 of 0", priceOf(5, 0, 9), 0);
@@ -542,6 +583,9 @@ public final class AskEdgeTests {
         f = Checks.made("ford 10 0;person 20 0 0;person 5 9 0;person 20 0 0;thinks 1 1 20");
         t.due("0 is gone ahead of 1", f.price(0, 1), -2);
         t.due("2 is still here", f.price(2, 1), 9);
+        f = forced("ford 10 0;person 20 0 0;person 5 9 0;person 20 0 0;thinks 1 1 20", "go 1 if person = 1;go 1 if with = 1");
+        t.due("0 has hired 1 ahead", f.price(0, 1), -2);
+        t.due("0 has hired 1 ahead", f.price(2, 1), -2);
         f = forced("ford 10 0;person 5 9 0;person 20 0 0;thinks 0 0 20", "go 1 if day = 1");
         t.due("not on DAY 0", f.price(1, 0), -2);
         f.day();

@@ -177,6 +177,13 @@ public final class TellEdgeTests {
         f.remark(0, 0, 0);
         f.force(4);
         ruledIs("whatever came then", f, 1, 3);
+        f = Checks.made("ford 1 0;person 0 0 0;person 1 0 0");
+        f.note(0, 1, 1);
+        ruledIs("1 over behind DAY 0", f, 1, NONE);
+        f.note(60, 0, 0);
+        ruledIs("0 here behind DAY 60", f, 1, NONE);
+        f.note(60, 1, 0);
+        ruledIs("1 here behind DAY 60", f, 0, -2);
     }
 
     private static void ruledFirst() {
@@ -219,7 +226,8 @@ public final class TellEdgeTests {
     }
 
     private static void lookBest() {
-        t.says(30, "the DAY (0 to 60) behind which by who is on SIDE 1 these part best: the most alike are fewest, of several the least; how many.");
+        t.says(30, "the DAY (0 to 60) behind which by who is on SIDE 1 these part best: the most alike are "
+                + "fewest, of several the least; how many.");
         RankFord f = Checks.made(ONE);
         rules(f, "go 1");
         lookIs("none and 0 alike", f, 0, 2);
@@ -238,6 +246,12 @@ public final class TellEdgeTests {
         rules(f, "go 1 if day = 59", "go 1 if day = 60");
         f.note(0, 0, 0);
         lookIs("behind DAY 59", f, 59, 1);
+        f = Checks.made(ONE);
+        rules(f, "go 1 if day = 1");
+        lookIs("behind DAY 0 alone", f, 0, 1);
+        rules(f, "go 1 if day = 2");
+        f.note(0, 0, 0);
+        lookIs("behind DAY 1 alone", f, 1, 1);
         f = Checks.made("ford 0 0;person 0 0 0;person 0 0 0;person 0 0 0");
         rules(f, "go 1 if alone=1 and person=0", "go 1 if alone=1 and person=1", "go 1 if alone=1 and person=2",
                 "go 1 if person=0 and with=1", "go 1 if person=1 and with=2", "go 0");
@@ -272,6 +286,8 @@ public final class TellEdgeTests {
         t.due("9 times", f.fairs(9, 60, 0, 0), 9);
         t.due("DAY 60 is not among 60", forced(ONE, "go 1 if day = 60").fairs(1, 60, 0, 0), 0);
         t.due("1 DAY", Checks.made(ONE).fairs(1, 1, 0, 0), 1);
+        f = forced(SIX, "go 1 if here - 1 = person and alone = 1");
+        t.due("5 DAYS, one on each, 10 times", f.fairs(10, 5, 0, 0), 50);
         t.due("six, 10 times", Checks.made(SIX).fairs(10, 60, 100, 0), 60);
         t.due("COINS of six, 10 times", Checks.made(SIX).fairs(10, 60, 100, 1), 5940);
         t.due("COINS of none over", Checks.made("ford 1 0;person 0 9 0").fairs(10, 60, 100, 1), 0);
@@ -316,6 +332,11 @@ public final class TellEdgeTests {
         drawn(194, 100, 17, 1);
         drawn(194, 99, 17, 0);
         drawn(194, 99, 10, 1);
+        // the next three from 0 are 22117, 3498, 16927: 17 mod 100, and 1 mod 21
+        RankFord f = forced(ONE, "go 1 if self = 1");
+        t.due("17 is below 18 on DAY 1, nobody having gone", f.fairs(1, 2, 18, 0), 1);
+        t.due("17 is not below 17", f.fairs(1, 2, 17, 0), 0);
+        t.due("17 is below 18 the second time", f.fairs(2, 1, 18, 0), 1);
         t.says(32, "then a DRAW mod 21: that one THINKS so much of themselves then");
         // from 1127: 4099, 11697, 20621: 99 mod 100, and 20 mod 21
         drawn(1127, 100, 20, 1);
@@ -347,7 +368,8 @@ public final class TellEdgeTests {
     }
 
     private static void count() {
-        t.says(33, "6: PEOPLE on SIDE 1, as bits, 7: COINS in all PURSES, 8: NOTES, 9: ACTS that can be UNDONE, 10: x, 11: bytes of the TAPE.");
+        t.says(33, "6: PEOPLE on SIDE 1, as bits, 7: COINS in all PURSES, 8: NOTES, 9: ACTS that can be UNDONE, "
+                + "10: x, 11: bytes of the TAPE.");
         RankFord f = Checks.made("ford 60 5" + ";person 60 99 9".repeat(6));
         for (int i = 0; i < 6; i++) {
             Checks.rule(f, "go 1");
@@ -456,6 +478,29 @@ public final class TellEdgeTests {
         t.due("DAY 1 by RULE 0", f.day(), 1);
         t.due("back(0) again", f.back(0), 1);
         t.due("who is over", f.count(6), 0);
+        f = Checks.made("ford 1 0;person 0 0 0;person 1 0 0");
+        f.note(60, 0, 0);
+        f.image(1);
+        f.note(NONE, 0, 0);
+        f.note(0, 1, 0);
+        f.image(2);
+        f.note(NONE, 0, 0);
+        f.note(0, 1, 1);
+        t.due("by this NOTE", f.ruled(0), 1);
+        f.back(2);
+        t.due("by the NOTE of IMAGE 2", f.ruled(0), 0);
+        f.back(1);
+        t.due("by the NOTE of IMAGE 1", f.ruled(0), 1);
+        Checks.rule(f, "go 1 if day = 1");
+        f.note(0, 1, 0);
+        t.due("RULE 0 alone, behind DAY 0", f.ruled(1), 0);
+        f.image(1);
+        f.note(NONE, 0, 0);
+        f.note(1, 1, 0);
+        f.note(1, 1, 0);
+        t.due("no RULE, behind DAY 1", f.ruled(1), -2);
+        f.back(1);
+        t.due("RULE 0 alone, behind DAY 0 again", f.ruled(1), 0);
         f = new RankFord();
         f.image(2);
         Checks.ford(f, ONE);

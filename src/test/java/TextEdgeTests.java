@@ -26,6 +26,7 @@ public final class TextEdgeTests {
         blanks();
         nested();
         pieces();
+        joined();
         divided();
         roundTheBits();
         faults();
@@ -279,6 +280,14 @@ public final class TextEdgeTests {
         t.due("what nobody told", f.thinks(0, 0), 10);
         t.due("nobody", Checks.ford(f, "ford 1 1"), 0);
         t.due("person(0, 0)", f.person(0, 0), NONE);
+        t.says(4, "The TAPE, which is empty then");
+        Checks.ford(f, "ford 1 1");
+        t.due("the TAPE behind a FORD", f.count(11), 0);
+        Checks.ford(f, "ford 1 6");
+        t.due("the TAPE behind a FAULT", f.count(11), 0);
+        Checks.put(f, "ford 1 1" + " ".repeat(392));
+        f.ford();
+        t.due("the TAPE behind 400 bytes", f.feed(0, 0, 0, 0, 0), 20);
         t.says(4, "-2 - its FAULT, and all stays.");
         String[] wrong = {"", "ford 1", "ford 1 1;person 1 1 1;person 1 1 10", "ford 1 1;thinks 0 0 0",
             "ford 1 1;person 5 5 5;ford 1 1"};
@@ -353,11 +362,27 @@ public final class TextEdgeTests {
         holds("alone = 1");
         byTwo("go 1 if person = 0 and alone = 0", 3);
         byTwo("go 1 if person = 0 and alone * 2 = 2", 1);
+        t.says(5, "depth (for the PERSON), height, purse");
+        byTwo("go 1 if person = 0 and with = 0 and depth = 5", 1);
+        byTwo("go 1 if person = 0 and with = 1 and depth = 0", 3);
+        byTwo("go 1 if person = 1 and with = 1 and depth = 5", 2);
+        byTwo("go 1 if alone = 1 and height = 60", 1);
+        byTwo("go 1 if alone = 1 and height = 0", 0);
+        byTwo("go 1 if alone = 1 and purse = 9", 1);
+        byTwo("go 1 if alone = 1 and purse = 0", 2);
+        t.says(5, "self (what they THINK of themselves), here (how many are on SIDE 0), over (on SIDE 1), day");
+        byTwo("go 1 if person = 0 and with = 1 and self = 20", 3);
+        byTwo("go 1 if person = 0 and with = 0 and self = 20", 1);
+        byTwo("go 1 if alone = 1 and here = 2 and over = 0", 1);
+        byTwo("go 1 if alone = 1 and here > 0 and over = 2 - here", 3);
+        byTwo("go 1 if here = 0 or over = 2", 0);
+        byTwo("go 1 if alone = 1 and day = 0", 3);
+        byTwo("go 1 if day > 0", 0);
         t.says(5, "fee (of the other one; 0 alone)");
         byTwo("go 1 if person = 0 and with = 0 and fee = 0", 1);
         byTwo("go 1 if person = 0 and with = 0 and fee = 4", 0);
         byTwo("go 1 if person = 0 and with = 1 and fee = 6", 3);
-        byTwo("go 1 if person = 1 and with = 0 and fee = 4", 3);
+        byTwo("go 1 if person = 1 and with = 1 and fee = 0", 2);
         t.says(5, "thinks (of the other one, or of themselves)");
         byTwo("go 1 if person = 0 and with = 0 and thinks = 20", 1);
         byTwo("go 1 if person = 0 and with = 1 and thinks = 0", 3);
@@ -365,7 +390,7 @@ public final class TextEdgeTests {
 
     /** Who goes on a DAY of two, who both CAN alone and with each other. */
     private static void byTwo(String rule, int over) {
-        RankFord f = Checks.made("ford 5 0;person 60 9 4;person 60 9 6;thinks 0 0 20;thinks 0 1 0");
+        RankFord f = Checks.made("ford 5 0;person 60 9 4;person 59 0 6;thinks 0 0 20;thinks 0 1 0");
         Checks.rule(f, rule);
         f.force(0);
         f.day();
@@ -466,6 +491,37 @@ public final class TextEdgeTests {
         goes("go 5 % 0", false);
     }
 
+    private static void compared(String test, boolean so) {
+        goes("go 1 if " + test, so);
+        goes("go 1 if not " + test, !so);
+        goes("go 1 if " + test + " and 1 = 1", so);
+        goes("go 1 if " + test + " or 1 = 2", so);
+        goes("go 1 if " + test + " and 1 = 2", false);
+        goes("go 1 if " + test + " or 1 = 1", true);
+    }
+
+    private static void joined() {
+        t.says(5, "TEST: PART { or PART }. PART: FACT { and FACT }. FACT: not FACT | [ TEST ] (these brackets are signs)");
+        holds("[1 = 1 or 1 = 1 and 1 = 2]");
+        holds("[1 = 2 and 1 = 1 or 1 = 1]");
+        holds("[not 1 = 2 or 1 = 1]");
+        goes("go 1 if [1 = 1 or 1 = 1] and 1 = 2", false);
+        goes("go 1 if not 1 = 2 and 1 = 2", false);
+        goes("go 1 if not 1 = 1 or 1 = 1", true);
+        goes("go 1 if not [1 = 1 or 1 = 1]", false);
+        ruleFault("go 1 if [1 = 1] + 1", 16, 0);
+        ruleFault("go 1 if [1 = 1] = 1", 16, 0);
+        ruleFault("go 1 if [1 + 1] = 2", 14, 0);
+        ruleFault("go 1 if [1 = 1] [1 = 1]", 16, 0);
+        ruleFault("go 1 if 1 = [1]", 12, 0);
+        t.says(5, "SUM: TERM { (+ or -) TERM }. TERM: VALUE { (* or / or %) VALUE }.");
+        holds("2 + 3 * 4 = 14");
+        holds("2 * 3 + 4 = 10");
+        holds("10 - 4 - 3 = 3");
+        holds("20 / 2 / 5 = 2");
+        holds("20 - 7 % 4 * 2 = 14");
+    }
+
     private static void roundTheBits() {
         t.says(5, "all goes round in 64 bits");
         goes("go 65536 * 65536", true);
@@ -482,11 +538,11 @@ public final class TextEdgeTests {
         holds("0 - " + ROUND + " = " + ROUND);
         t.says(5, "SIGN one of < <= = >= >");
         for (int a = 4; a <= 6; a++) {
-            goes("go 1 if " + a + " < 5", a < 5);
-            goes("go 1 if " + a + " <= 5", a <= 5);
-            goes("go 1 if " + a + " = 5", a == 5);
-            goes("go 1 if " + a + " >= 5", a >= 5);
-            goes("go 1 if " + a + " > 5", a > 5);
+            compared(a + " < 5", a < 5);
+            compared(a + " <= 5", a <= 5);
+            compared(a + " = 5", a == 5);
+            compared(a + " >= 5", a >= 5);
+            compared(a + " > 5", a > 5);
         }
         ruleFault("go 1 if 1 => 1", 11, 0);
         ruleFault("go 1 if 1 =< 1", 11, 0);
@@ -599,6 +655,23 @@ public final class TextEdgeTests {
         RankFord twin = States.some();
         twin.end(0);
         t.sameAsTwin("rule of 'go 1 +'", f, twin);
+        f = Checks.made(ONE);
+        String[] full = {"[".repeat(10) + "1=1" + "]".repeat(10), "1" + "+1".repeat(59), "1" + ";go 1".repeat(11)};
+        t.due("a FAULT too deep", Checks.rule(f, "go 1 if " + "[".repeat(11)), Checks.fault(18, 2));
+        t.due("10 deep behind it", Checks.rule(f, "go 1 if " + full[0]), 0);
+        t.due("a FAULT of too many VALUES", Checks.rule(f, "go " + full[1] + "+1"), Checks.fault(123, 3));
+        t.due("60 behind it", Checks.rule(f, "go " + full[1]), 1);
+        t.due("a FAULT of too many CLAUSES", Checks.rule(f, "go " + full[2] + ";go 1"), Checks.fault(60, 4));
+        t.due("12 behind it", Checks.rule(f, "go " + full[2]), 2);
+        t.due("a FAULT within [", Checks.rule(f, "go 1 if 1=2 and [1=1"), Checks.fault(20, 0));
+        t.due("no [ is left of it", Checks.rule(f, "go 1 if 1=1"), 3);
+        f.force(3);
+        t.due("and nothing else", f.day(), 1);
+        f.undo();
+        t.due("a FAULT behind not", Checks.rule(f, "go 1 if not"), Checks.fault(11, 0));
+        t.due("no not is left of it", Checks.rule(f, "go 1"), 4);
+        f.force(4);
+        t.due("and nothing else", f.day(), 1);
         f = States.fordless();
         t.due("nothing", Checks.rule(f, ""), Checks.fault(0, 0));
         twin = States.fordless();
