@@ -238,6 +238,8 @@ public final class ActEdgeTests {
         f.day();
         t.due("a FEE of 0", f.person(0, 1), 2);
         t.due("with 1, so all are over", f.count(6), 15);
+        f = Checks.made("ford 10 0" + ";person 5 99 0".repeat(6) + ";thinks 2 0 0");
+        t.due("nobody of six", f.day(), 0);
         f = Checks.made("ford 6 0;person 5 0 0;person 9 0 1");
         t.due("nobody they CAN go with", f.day(), 1);
     }

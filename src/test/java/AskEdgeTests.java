@@ -249,7 +249,7 @@ public final class AskEdgeTests {
     }
 
     private static void rings(String thoughts, int many, int set) {
-        RankFord f = Checks.made("ford0 0" + ";person0 0 0".repeat(6) + thoughts);
+        RankFord f = Checks.made("ford0 0" + ";person0 9 1".repeat(6) + thoughts);
         t.due("ring(0) of '" + thoughts + "'", f.ring(0), many);
         t.due("ring(1) of '" + thoughts + "'", f.ring(1), set);
     }
@@ -323,7 +323,10 @@ public final class AskEdgeTests {
         remarks("2 for 3", Checks.made("ford 10 0;person 0 2 0;person 60 0 3"), 1, NONE, NONE);
         // 0 and 1 each hire 2, who could go but once
         remarks("two who hire one", Checks.made("ford 10 0;person 0 0 0;person 0 0 0;person 60 0 0;thinks 0 0 20"), 3, 1, 20);
+        remarks("the last of six, who has not the FEE", Checks.made("ford 10 0" + ";person 0 0 1".repeat(5) + ";person 0 0 1;thinks 5 5 20"
+                + ";thinks 4 4 20"), 0, NONE, NONE);
         t.says(21, "who (none first, then the least); the least number");
+        remarks("0 by 15, with 2 of six", Checks.made("ford 10 0" + ";person 5 99 0".repeat(6) + ";thinks 2 0 0"), 2, 0, 15);
         remarks("0 ahead of 1", Checks.made("ford 10 0;person 5 0 0;person 5 0 0;person 60 0 0"), 2, 0, 15);
         remarks("1, by whom both CAN", Checks.made("ford 10 0;person 5 0 0;person 5 0 0;thinks 0 0 20"), 2, 1, 15);
     }
