@@ -122,7 +122,24 @@ public final class OracleTests {
     }
 
     private String fordText() {
+        if (upTo(12) == 0) {
+            return tallFord();
+        }
         return upTo(2) == 0 ? anyFord() : hiringFord();
+    }
+
+    /** All numbers up to the greatest that can be told, and now and then one more. */
+    private String tallFord() {
+        StringBuilder b = new StringBuilder();
+        b.append("ford ").append(52 + upTo(8)).append(" ").append(upTo(5));
+        int people = 1 + upTo(5);
+        for (int p = 0; p < people; p++) {
+            b.append(";person ").append(54 + upTo(upTo(30) == 0 ? 7 : 6)).append(" ").append(upTo(99)).append(" ").append(upTo(9));
+        }
+        for (int i = upTo(8); i > 0; i--) {
+            b.append(";thinks ").append(upTo(people - 1)).append(" ").append(upTo(people - 1)).append(" ").append(upTo(20));
+        }
+        return b.toString();
     }
 
     /** Too deep for most alone, but not with somebody whom they look down on. */
@@ -157,6 +174,29 @@ public final class OracleTests {
     }
 
     private String ruleText() {
+        return upTo(12) == 0 ? shortClauses() : anyRule();
+    }
+
+    /** About as many CLAUSES, and now and then VALUES, as a RULE can have. */
+    private String shortClauses() {
+        StringBuilder b = new StringBuilder();
+        for (int i = 10 + upTo(3); i > 0; i--) {
+            b.append("go ").append(WORDS[upTo(11)]);
+            if (upTo(8) > 0) {
+                b.append(" if ").append(upTo(5) == 0 ? "not " : "").append(WORDS[upTo(11)]).append(SIGNS[upTo(4)]).append(upTo(9));
+            }
+            if (upTo(3) == 0) {
+                b.append("+1");
+            }
+            b.append(i > 1 ? ";" : "");
+        }
+        if (b.length() > 400) {
+            b.setLength(400);
+        }
+        return b.toString();
+    }
+
+    private String anyRule() {
         StringBuilder b = new StringBuilder();
         int clauses = upTo(25) == 0 ? 10 + upTo(4) : 1 + upTo(3);
         int size = upTo(8) == 0 ? 9 : 3;
